@@ -67,7 +67,6 @@ final class Check {
         return room;
     }
 
-    /** The keys of a version that are made in the same page, as groups of keys with their doors. */
     static List<Integer> keysOf(Pagemaze maze, int version) {
         List<Integer> keys = new ArrayList<>();
         for (int key = 0; key < 1000; key++) {
