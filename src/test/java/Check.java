@@ -5,6 +5,7 @@ import java.util.List;
 final class Check {
     private static int wrong = 0;
     private static int asked = 0;
+    private static String sentence = "";
 
     private Check() {
     }
@@ -14,16 +15,28 @@ final class Check {
         Object answer();
     }
 
+    /** The words of the document that the answers from here on are looked at for. */
+    static void sentence(String words) {
+        sentence = "[" + words + "] ";
+    }
+
     static void due(String what, Object got, Object want) {
         asked++;
         if (!want.equals(got)) {
             wrong++;
-            System.out.println(what + " answered " + got + ", due is " + want);
+            System.out.println(sentence + what + " answered " + got + ", due is " + want);
         }
     }
 
     static void thrown(String what, Class<? extends RuntimeException> want, Call call) {
         due(what, outcome(call), "throws." + want.getSimpleName());
+    }
+
+    /** A call that throws, and changes nothing that the maze tells. */
+    static void refused(String what, Class<? extends RuntimeException> want, Pagemaze maze, Call call) {
+        String before = State.of(maze);
+        thrown(what, want, call);
+        due(what + ": all that the maze tells behind it", State.of(maze), before);
     }
 
     /** The answer of a call, or the name of the very class that it throws. */

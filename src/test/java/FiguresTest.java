@@ -1,5 +1,4 @@
 import java.lang.reflect.Array;
-import java.lang.reflect.Field;
 import java.util.NoSuchElementException;
 
 /** Promises 35 to 37, and what 34 and 37 answer of an object that is not sound. */
@@ -14,6 +13,7 @@ public final class FiguresTest {
         keysOutOfOrder();
         pagesTooSmall();
         pagesOfOtherLevels();
+        firstVersionOfAll();
         stepsThroughNoDoor();
         Check.end();
     }
@@ -84,29 +84,9 @@ public final class FiguresTest {
 
     // An object is never unsound by its own calls, so its fields are spoilt here by hand.
 
-    private static Object field(Object holder, String name) throws ReflectiveOperationException {
-        Field field = holder.getClass().getDeclaredField(name);
-        field.setAccessible(true);
-        return field.get(holder);
-    }
-
-    private static void setField(Object holder, String name, Object value) throws ReflectiveOperationException {
-        Field field = holder.getClass().getDeclaredField(name);
-        field.setAccessible(true);
-        field.set(holder, value);
-    }
-
-    private static Object root(Pagemaze maze, int version) throws ReflectiveOperationException {
-        return Array.get(field(field(maze, "tree"), "roots"), version);
-    }
-
-    private static Object below(Object page, int slot) throws ReflectiveOperationException {
-        return Array.get(field(page, "below"), slot);
-    }
-
     private static void spoilRoom(Pagemaze maze, int version, int slot, int index, int key)
             throws ReflectiveOperationException {
-        int[] rooms = (int[]) field(below(root(maze, version), slot), "rooms");
+        int[] rooms = Inside.rooms(Inside.below(Inside.root(maze, version), slot));
         int before = rooms[index];
         rooms[index] = key;
         Check.due("P37 key " + key + " at " + index + " of page " + slot, maze.isSound(), false);
@@ -128,40 +108,48 @@ public final class FiguresTest {
 
     private static void pagesTooSmall() throws ReflectiveOperationException {
         Pagemaze x = Check.mazeOf(10, 20, 30, 40, 50);
-        Object page = below(root(x, 5), 1);
-        setField(page, "size", 1);
+        Object page = Inside.below(Inside.root(x, 5), 1);
+        Inside.setField(page, "size", 1);
         Check.due("P37 page of one key", x.isSound(), false);
-        setField(page, "size", 2);
-        Object root = root(x, 4);
-        ((int[]) field(root, "rooms"))[4] = 45;
-        setField(root, "size", 5);
+        Inside.setField(page, "size", 2);
+        Object root = Inside.root(x, 4);
+        Inside.rooms(root)[4] = 45;
+        Inside.setField(root, "size", 5);
         Check.due("P37 page of five keys", x.isSound(), false);
-        setField(root, "size", 4);
+        Inside.setField(root, "size", 4);
         Check.due("P37 mended", x.isSound(), true);
-        setField(root(x, 5), "size", 0);
+        Inside.setField(Inside.root(x, 5), "size", 0);
         Check.due("P37 outermost page without keys", x.isSound(), false);
     }
 
     private static void pagesOfOtherLevels() throws ReflectiveOperationException {
         Pagemaze x = Check.mazeUpTo(17);
-        Object middle = below(root(x, 17), 1);
-        Object bottom = below(middle, 1);
-        Array.set(field(middle, "below"), 1, null);
+        Object middle = Inside.below(Inside.root(x, 17), 1);
+        Object bottom = Inside.below(middle, 1);
+        Array.set(Inside.field(middle, "below"), 1, null);
         Check.due("P37 page that is not there", x.isSound(), false);
-        Array.set(field(middle, "below"), 1, bottom);
+        Array.set(Inside.field(middle, "below"), 1, bottom);
         Check.due("P37 mended", x.isSound(), true);
-        Array.set(field(root(x, 17), "below"), 1, bottom);
+        Array.set(Inside.field(Inside.root(x, 17), "below"), 1, bottom);
         Check.due("P37 bottom page too high", x.isSound(), false);
-        Array.set(field(root(x, 17), "below"), 1, middle);
-        Array.set(field(bottom, "below"), 1, bottom);
+        Array.set(Inside.field(Inside.root(x, 17), "below"), 1, middle);
+        Array.set(Inside.field(bottom, "below"), 1, bottom);
         Check.due("P37 page below the bottom", x.isSound(), false);
+    }
+
+    private static void firstVersionOfAll() throws ReflectiveOperationException {
+        Pagemaze x = Check.mazeOf(10);
+        Array.set(Inside.field(Inside.root(x, 0), "below"), 0, Inside.root(x, 1));
+        Check.due("P37 page below one without keys", x.isSound(), false);
+        Array.set(Inside.field(Inside.root(x, 0), "below"), 0, null);
+        Check.due("P37 mended", x.isSound(), true);
     }
 
     private static void stepsThroughNoDoor() throws ReflectiveOperationException {
         Pagemaze x = Check.mazeOf(10, 20, 30, 40, 50);
         x.addPupil(10);
         Check.walk(x, 0, "rUdR");
-        Object pupil = Array.get(field(x, "pupils"), 0);
+        Object pupil = Array.get(Inside.field(x, "pupils"), 0);
         spoilStep(x, pupil, "stepDoor", 0);
         spoilStep(x, pupil, "stepFrom", 30);
         spoilStep(x, pupil, "stepTo", 50);
@@ -171,7 +159,7 @@ public final class FiguresTest {
 
     private static void spoilStep(Pagemaze maze, Object pupil, String row, int value)
             throws ReflectiveOperationException {
-        int[] values = (int[]) field(pupil, row);
+        int[] values = (int[]) Inside.field(pupil, row);
         int before = values[3];
         values[3] = value;
         Check.due("P34 " + row, maze.grade(0), 3);
