@@ -59,6 +59,7 @@ public final class KeyLimitTest {
         Check.due("160 rising keys", mazeOf(160, 1).levels(11), 4);
         Pagemaze x = mazeOf(161, 1);
         Check.due("161 rising keys", x.levels(latest(x)) + " " + x.isSound(), "5 true");
+        Check.due("their pages", x.pages(latest(x)) + " " + x.sharedWith(latest(x), latest(x)), "81 81");
         x.remove(161);
         Check.due("one less", x.levels(latest(x)) + " " + x.isSound(), "4 true");
     }

@@ -114,7 +114,8 @@ public final class PupilsBoundariesTest {
     }
 
     private static void greatestLowerKey() {
-        Check.sentence("If a room is not there in a new version, its pupils are in the room with the greatest lower key");
+        Check.sentence("If a room is not there in a new version, its pupils are in the room with the greatest lower"
+                + " key");
         Pagemaze x = Check.mazeOf(10, 20, 30);
         x.addPupil(20);
         x.addPupil(30);

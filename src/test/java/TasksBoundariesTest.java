@@ -573,8 +573,8 @@ public final class TasksBoundariesTest {
     // ---- grades and figures ----
 
     private static void grades() {
-        Check.sentence("The grade of a pupil is how many of its steps went through a door that was there in its version,"
-                + " found anew from the keys of the pages of that version.");
+        Check.sentence("The grade of a pupil is how many of its steps went through a door that was there in its"
+                + " version, found anew from the keys of the pages of that version.");
         Pagemaze x = Check.mazeUpTo(17);
         x.addPupil(9);
         x.addPupil(1);
